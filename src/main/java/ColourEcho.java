@@ -626,7 +626,7 @@ public final class ColourEcho {
         }
 
         boolean isOver() {
-            return mostSeen() > most;
+            return seenToday(0, 0) > most || seenToday(1, 0) > most || seenToday(2, 0) > most;
         }
 
         /** What a day of snow leaves behind of the days ahead of it is nothing, so they are emptied here. */
