@@ -32,7 +32,7 @@ public final class ColourEcho {
     // ---- 1 walls, dresses, days
 
     public int wall(int wall, int off, int keeps) {
-        if (!isWithin(wall, 0, WALLS - 1)) {
+        if (!isWall(wall)) {
             return UNKNOWN;
         }
         if (!isWithin(off, 1, MOST_OFF) || !isWithin(keeps, 0, MOST_KEEPS)) {
@@ -386,7 +386,7 @@ public final class ColourEcho {
             return toldOfToday(what);
         }
         int wall = what / 10 - 1;
-        if (isWithin(wall, 0, WALLS - 1) && isWithin(what % 10, 0, 1)) {
+        if (isWall(wall) && isWithin(what % 10, 0, 1)) {
             return what % 10 == 0 ? gorge.off[wall] : gorge.keeps[wall];
         }
         int dress = what / 100 - 1;
@@ -404,6 +404,10 @@ public final class ColourEcho {
 
     private static boolean isColour(int colour) {
         return isWithin(colour, 0, COLOURS - 1);
+    }
+
+    private static boolean isWall(int wall) {
+        return isWithin(wall, 0, WALLS - 1);
     }
 
     private static boolean isDress(int dress) {
@@ -607,7 +611,7 @@ public final class ColourEcho {
 
         /** What was seen so many days (1 to 9) ahead of today, 0 if no day remembers it. */
         int seenAgo(int colour, int ago) {
-            return past[colour * MOST_OFF + ago - 1];
+            return ago >= 1 && ago <= MOST_OFF ? past[colour * MOST_OFF + ago - 1] : 0;
         }
 
         /** What is seen today, if so much more were shown. */
@@ -664,7 +668,7 @@ public final class ColourEcho {
                 return hindranceOfDress(dress);
             }
             if (head == 'w') {
-                return keeps[digit] == 0 ? WHITE : 0;
+                return isWall(digit) && keeps[digit] > 0 ? 0 : WHITE;
             }
             return head == '.' && day >= LAST_DAY ? NO_DAY_LEFT : 0;
         }
@@ -690,10 +694,10 @@ public final class ColourEcho {
                 fog = !fog;
             } else if (head == 's') {
                 snow = !snow;
-            } else if (head == 'w') {
-                keeps[digit] = 0;
-            } else {
+            } else if (head == '.') {
                 endDay();
+            } else if (head == 'w' && isWall(digit)) {
+                keeps[digit] = 0;
             }
         }
 
@@ -822,7 +826,7 @@ public final class ColourEcho {
 
         /** Fills the days from tomorrow on; bit 0 of fogs is tomorrow's fog, and none comes behind the eighth day. */
         void run(Gorge gorge, int d, int fogs) {
-            for (int day = 1; day <= d; day++) {
+            for (int day = 1; day <= d && day <= HORIZON; day++) {
                 boolean fog = day <= FOG_DAYS && has(fogs, day - 1);
                 row[NOW + day] = fog ? 0 : offWalls(gorge, NOW + day);
             }
@@ -831,13 +835,14 @@ public final class ColourEcho {
         private int offWalls(Gorge gorge, int place) {
             int sum = 0;
             for (int wall = 0; wall < WALLS; wall++) {
-                sum += row[place - gorge.off[wall]] * gorge.keeps[wall] / TENTHS;
+                int from = place - gorge.off[wall];
+                sum += from >= 0 && from < place ? row[from] * gorge.keeps[wall] / TENTHS : 0;
             }
             return capped(sum);
         }
 
         int at(int d) {
-            return row[NOW + d];
+            return isAhead(d) ? row[NOW + d] : 0;
         }
 
         int mostFrom(int d) {
@@ -900,7 +905,7 @@ public final class ColourEcho {
 
         private int seenBy(int guess, int day) {
             int later = day - guess / 10;
-            return later < 0 ? 0 : echo[(guess % 10 - 1) * (HORIZON + 1) + later];
+            return isAhead(later) ? echo[(guess % 10 - 1) * (HORIZON + 1) + later] : 0;
         }
 
         /** How many guesses a look on this day leaves, if what is seen tells least. */

@@ -38,4 +38,16 @@ final class Due {
         write(x, text);
         return x.done();
     }
+
+    /** So many days go by in which nothing is shown. */
+    static void pass(ColourEcho x, int days) {
+        for (int left = days; left > 0; left -= 60) {
+            live(x, ".".repeat(Math.min(60, left)));
+        }
+    }
+
+    /** Shows 990 of a colour (its letter) today. */
+    static void show990(ColourEcho x, String colour) {
+        live(x, (colour + "9").repeat(11));
+    }
 }
