@@ -743,24 +743,21 @@ public final class ColourEcho {
             return head == 'w' ? isWithin(sign, '0', '0' + WALLS - 1) : isWithin(sign, '1', '9');
         }
 
-        int lengthAt(int place) {
-            return takesDigit(signs[place]) ? 2 : 1;
-        }
-
         /** The digit of the act at a place, 0 if it has none. */
         int digitAt(int place) {
             return takesDigit(signs[place]) && place + 1 < count ? signs[place + 1] - '0' : 0;
         }
 
         int faultPlace() {
-            for (int place = 0; place < count; place += lengthAt(place)) {
+            for (int place = 0; place < count; place++) {
                 int head = signs[place];
                 if (takesDigit(head)) {
-                    if (place + 1 >= count) {
+                    place++;
+                    if (place >= count) {
                         return count;
                     }
-                    if (!isDigitOf(head, signs[place + 1])) {
-                        return place + 1;
+                    if (!isDigitOf(head, signs[place])) {
+                        return place;
                     }
                 } else if (!standsAlone(head)) {
                     return place;
@@ -782,9 +779,10 @@ public final class ColourEcho {
             acts = 0;
             reason = 0;
             firstOver = NONE;
-            for (int place = 0; place < pad.count; place += pad.lengthAt(place)) {
+            for (int place = 0; place < pad.count; place++) {
                 int head = pad.signs[place];
                 int digit = pad.digitAt(place);
+                place += Pad.takesDigit(head) ? 1 : 0;
                 reason = end.hindrance(head, digit);
                 if (reason != 0) {
                     return;

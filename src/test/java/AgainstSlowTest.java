@@ -4,7 +4,8 @@ import java.util.Random;
 
 /** Runs of calls by draws, of which every answer is held against the slow gorge's. */
 public final class AgainstSlowTest {
-    private static final int RUNS = 700, CALLS = 90;
+    /** One step asks some seventy times at most, so a run stays within the 512 calls that an object answers for. */
+    private static final int RUNS = 1200, STEPS = 90, MOST_ASKED = 440;
     private final Due due = new Due();
     private final Random random;
     private final ColourEcho fast = new ColourEcho();
@@ -19,7 +20,7 @@ public final class AgainstSlowTest {
         int wrong = 0;
         for (int run = 0; run < RUNS && wrong == 0; run++) {
             AgainstSlowTest test = new AgainstSlowTest(run);
-            for (int call = 0; call < CALLS && test.due.wrong() == 0; call++) {
+            for (int step = 0; step < STEPS && test.due.wrong() == 0 && test.due.asked() < MOST_ASKED; step++) {
                 test.call();
             }
             if (test.due.wrong() != 0) {

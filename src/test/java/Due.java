@@ -17,6 +17,10 @@ final class Due {
         return wrong;
     }
 
+    int asked() {
+        return asked;
+    }
+
     /** Prints the sum and ends the machine with 1 if an answer was wrong. */
     void end() {
         System.out.println(asked + " answers, " + wrong + " not as due");

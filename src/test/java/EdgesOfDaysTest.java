@@ -11,6 +11,7 @@ public final class EdgesOfDaysTest {
         nothingAheadOfDayZero();
         cutWallByWall();
         at999InAll();
+        at1000Exactly();
         fogIsTodaysAlone();
         fogHidesButForgetsNothing();
         snowForgetsWhatIsAhead();
@@ -145,6 +146,27 @@ public final class EdgesOfDaysTest {
         due("nor more tomorrow than 9 tenths of 999", 899, x.forecast(0, 1));
         Due.live(x, ".");
         due("and so it was", 899, x.sees(0));
+    }
+
+    private static void at1000Exactly() {
+        ColourEcho x = new ColourEcho();
+        x.dress(0, 9, 1, 0);
+        Due.show990(x, "r");
+        Due.live(x, "A");
+        x.wall(0, 1, 9);
+        Due.live(x, ".r9r1");
+        due("899 and 100", 999, x.sees(0));
+        x.dress(0, 1, 0, 0);
+        Due.live(x, "A");
+        due("899 and 101", 999, x.sees(0));
+        ColourEcho four = new ColourEcho();
+        for (int wall = 0; wall < 4; wall++) {
+            four.wall(wall, 1, 5);
+        }
+        Due.live(four, "b9b9b9b9b9b5");
+        due("four times 250", 999, four.forecast(2, 1));
+        Due.live(four, ".");
+        due("and so it was", 999, four.sees(2));
     }
 
     /** "On a day of FOG nothing comes off WALLS": what is shown is SEEN, and the next day is clear. */

@@ -6,6 +6,7 @@ public final class EdgesOfSeeingTest {
     public static void main(String[] args) {
         shown999CanBe();
         shown1000CanNot();
+        judgedAnew();
         shownIsNotSeen();
         aNewDayShowsAnew();
         wornOnceADay();
@@ -65,6 +66,12 @@ public final class EdgesOfSeeingTest {
         due("999 shown", 999, x.sees(2));
         judged("B", NONE, NONE, x);
         due("a dress of nothing", 1, x.done());
+        for (String letter : new String[] {"r", "y", "b"}) {
+            ColourEcho tens = new ColourEcho();
+            tens.dress(0, 9, 9, 9);
+            judged("A" + (letter + "9").repeat(11), NONE, NONE, tens);
+            judged("A" + (letter + "9").repeat(11) + letter + "1", 12, 1, tens);
+        }
     }
 
     private static void shown1000CanNot() {
@@ -80,6 +87,22 @@ public final class EdgesOfSeeingTest {
         judged("r9".repeat(11), NONE, NONE, text);
         judged("r9".repeat(12), 11, 1, text);
         judged("y9".repeat(11) + "r9", NONE, NONE, text);
+    }
+
+    /** What an earlier text could not be is no matter to the next, an empty one too. */
+    private static void judgedAnew() {
+        ColourEcho x = new ColourEcho();
+        x.limit(0);
+        judged("r1.AA", 3, 2, x);
+        due("broken", NO, x.broken());
+        judged("", NONE, NONE, x);
+        due("broken", NONE, x.broken());
+        due("behind", 0, x.behind(3));
+        due("done", 0, x.done());
+        judged("r1.", NONE, NONE, x);
+        due("broken", 0, x.broken());
+        judged("", NONE, NONE, x);
+        due("broken", NONE, x.broken());
     }
 
     private static void shownIsNotSeen() {

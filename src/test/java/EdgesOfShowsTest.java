@@ -29,6 +29,7 @@ public final class EdgesOfShowsTest {
         apartOfAll();
         apartInAllColours();
         apartInAnEmptyGorge();
+        emptyWhateverWasSeen();
         apartRefused();
         spoilToday();
         spoilAtItsEnds();
@@ -395,6 +396,23 @@ public final class EdgesOfShowsTest {
             Due.live(x, text);
             due("A and B behind " + text, 1, x.apart(7, 1, -1));
             due("they", 1, x.apart(7, 1, 0));
+        }
+    }
+
+    /** "else empty": what was SEEN on the nine days ahead in fact comes back in none of these. */
+    private static void emptyWhateverWasSeen() {
+        for (int off = 1; off <= 9; off++) {
+            ColourEcho x = new ColourEcho();
+            x.dress(0, 5, 0, 0);
+            x.dress(1, 5, 0, 0);
+            x.dress(2, 10, 0, 0);
+            x.wall(0, off, 1);
+            Due.live(x, "r9.r9.r9.r9.r9.r9.r9.r9.r9.r9");
+            for (int d = 1; d <= 9; d++) {
+                due("off " + off + ": much comes back in fact", d <= off ? 9 : 0, x.forecast(0, d));
+                due("C is 1 on the day alone", d == off ? 1 : 3, x.apart(7, d, -1));
+                due("5 and 5 are 10", d == off ? 3001 : 3000, x.spoil(0, 1, d));
+            }
         }
     }
 

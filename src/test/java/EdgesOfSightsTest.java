@@ -13,9 +13,11 @@ public final class EdgesOfSightsTest {
         nothingAheadOfTheShow();
         sightsThatAgreeAndThatDoNot();
         wallsAsNow();
+        emptyWhateverWasSeen();
         shownByPlace();
         lookTheLeastDay();
         lookAtDay60();
+        lookNoFartherThanDay60();
         lookWhenNothingFits();
         fogsOnNoDay();
         fogsOnEightDays();
@@ -89,6 +91,7 @@ public final class EdgesOfSightsTest {
         x.wall(1, 1, 9);
         x.seen(60, 999);
         due("999 of everything by day 60", 90, x.shown(-1));
+        due("so another day is looked at", 1, x.look(1) < 90 ? 1 : 0);
         x.seen(60, 998);
         due("998 of nothing", 0, x.shown(-1));
     }
@@ -162,6 +165,22 @@ public final class EdgesOfSightsTest {
         due("whitened", 0, x.shown(-1));
     }
 
+    /** "in an empty gorge": what was SEEN on the nine days ahead in fact comes back in none of the guesses. */
+    private static void emptyWhateverWasSeen() {
+        for (int off = 1; off <= 9; off++) {
+            ColourEcho x = new ColourEcho();
+            x.wall(0, off, 1);
+            Due.live(x, "r9.r9.r9.r9.r9.r9.r9.r9.r9.r9");
+            x.seen(0, 90);
+            due("nine tens on day 0", 9, x.shown(0));
+            for (int day = 1; day <= 6; day++) {
+                due("much comes back in fact", day <= off ? 9 : 0, x.forecast(0, day));
+                x.seen(day, day == off ? 9 : 0);
+                due("and in the guess on the day alone", 9, x.shown(0));
+            }
+        }
+    }
+
     /** "the i-th (10 times the day and the tens; rising)". */
     private static void shownByPlace() {
         ColourEcho x = new ColourEcho();
@@ -199,6 +218,18 @@ public final class EdgesOfSightsTest {
         due("one is left", 1, x.look(1));
         due("-1", OUTSIDE, x.look(-1));
         due("2", OUTSIDE, x.look(2));
+    }
+
+    /** Day 61 would tell all of these apart. */
+    private static void lookNoFartherThanDay60() {
+        ColourEcho x = new ColourEcho();
+        x.wall(0, 7, 8);
+        x.wall(1, 5, 2);
+        x.wall(2, 5, 4);
+        x.seen(17, 0);
+        due("45 fit", 45, x.shown(-1));
+        due("a day from 0 to 60", 35, x.look(0));
+        due("two are left", 2, x.look(1));
     }
 
     /** "NONE: nothing fits". */
@@ -444,6 +475,12 @@ public final class EdgesOfSightsTest {
         int drawn = (75 * 9999 + 74) % 65537;
         due("seed 9999", drawn / 7 % 100, x.year(9999, 1, 0));
         due("nothing is done in fact", 0, x.told(1) + x.sees(0) + x.sees(1) + x.sees(2));
+        for (int seed = 0; seed <= 9999; seed++) {
+            int much = (75 * seed + 74) % 65537 / 7 % 100;
+            if (much == 0 || much == 99) {
+                due("the least and the most that a day shows, by " + seed, much, new ColourEcho().year(seed, 1, 2));
+            }
+        }
         Due.live(x, "y9");
         due("today is none of its days", 10, x.year(0, 1, 2));
     }
@@ -567,15 +604,19 @@ public final class EdgesOfSightsTest {
         Due.live(x, "r9........");
         x.wall(0, 1, 1);
         x.dress(5, 1, 2, 3);
-        for (int n = 0; n < 8; n++) {
-            x.seen(9, 81);
+        for (int n = 0; n < 7; n++) {
+            x.seen(8, 0);
         }
+        x.seen(9, 81);
         Due.live(x, "Ffb4");
         Due.write(x, "r1");
         x.image(0);
         Due.write(x, ".fy9.");
         x.done();
         x.forget();
+        for (int n = 0; n < 8; n++) {
+            x.seen(0, 10 + n);
+        }
         x.dress(5, 9, 9, 9);
         x.wall(3, 1, 0);
         x.wall(0, 5, 5);
@@ -594,7 +635,8 @@ public final class EdgesOfSightsTest {
         due("shown today", 43, x.sees(2));
         due("nine days ahead", 81, x.forecast(0, 1));
         due("sights", FULL, x.seen(0, 0));
-        due("which fit", 9, x.shown(0));
+        due("of which the last leaves one", 1, x.shown(-1));
+        due("day 0, nine tens", 9, x.shown(0));
     }
 
     /** Each told number, and the ones beside it. */

@@ -814,7 +814,7 @@ public final class PromisesTest {
         due("restore 2", OUTSIDE, x.restore(2));
     }
 
-    private static void tolds() {
+    private static ColourEcho manyColoured() {
         ColourEcho x = new ColourEcho();
         for (int wall = 0; wall < 4; wall++) {
             x.wall(wall, 9 - wall, wall + 3);
@@ -822,7 +822,14 @@ public final class PromisesTest {
         for (int dress = 0; dress < 6; dress++) {
             x.dress(dress, dress + 10, dress + 20, dress + 30);
         }
+        return x;
+    }
+
+    private static void tolds() {
+        ColourEcho x = manyColoured();
         for (int what = -2000; what <= 2000; what++) {
+            // One object answers for 512 calls.
+            x = what % 400 == 0 ? manyColoured() : x;
             int want = OUTSIDE;
             for (int wall = 0; wall < 4; wall++) {
                 want = what == 10 * (1 + wall) ? 9 - wall : what == 10 * (1 + wall) + 1 ? wall + 3 : want;
