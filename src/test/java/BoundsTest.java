@@ -18,7 +18,7 @@ public final class BoundsTest {
         "wish U0:63 O0:60 O0:999999999 O0:1", "whiten O0:60 O0:999 O0:1", "apart U0:63 O0:60 F-1:14",
         "spoil U0:5 U0:5 O0:60", "seen O0:60 O0:999", "shown F-1:89", "look O0:1",
         "fogs O0:2 O0:8 O0:10 O0:999 O0:1 O0:1", "turns U0:63 O0:1", "year O0:9999 O1:60 O0:2", "image O0:1",
-        "restore O0:1"};
+        "restore O0:1", "told O0:6"};
 
     public static void main(String[] args) {
         for (String told : CALLS) {
