@@ -911,11 +911,16 @@ public final class ColourEcho {
             int most = 0;
             for (int i = 0; i < count; i++) {
                 int seen = seenBy(fitting[i], day);
-                tally[seen]++;
-                most = Math.max(most, tally[seen]);
+                if (isAmount(seen)) {
+                    tally[seen]++;
+                    most = Math.max(most, tally[seen]);
+                }
             }
             for (int i = 0; i < count; i++) {
-                tally[seenBy(fitting[i], day)] = 0;
+                int seen = seenBy(fitting[i], day);
+                if (isAmount(seen)) {
+                    tally[seen] = 0;
+                }
             }
             return most;
         }

@@ -4,8 +4,8 @@ import java.util.Random;
 
 /** Runs of calls by draws, of which every answer is held against the slow gorge's. */
 public final class AgainstSlowTest {
-    /** One step asks some seventy times at most, so a run stays within the 512 calls that an object answers for. */
-    private static final int RUNS = 1200, STEPS = 90, MOST_ASKED = 440;
+    /** One step asks some 115 times at most, so a run stays within the 512 calls that an object answers for. */
+    private static final int RUNS = 1200, STEPS = 90, MOST_ASKED = 395;
     private final Due due = new Due();
     private final Random random;
     private final ColourEcho fast = new ColourEcho();
