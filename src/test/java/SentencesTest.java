@@ -21,6 +21,7 @@ public final class SentencesTest {
         allIsSoThen();
         ofWhatWasShownSoFar();
         nothingMoreBeingShown();
+        asForecast();
         makes();
         goOutBesidesOrNot();
         fewestWalls();
@@ -30,6 +31,7 @@ public final class SentencesTest {
         fewestAtTheMost();
         eachByItself();
         byTurns();
+        ratherWin();
         aYearWithSnow();
         aYearWithFog();
         aYearIsNotDone();
@@ -288,6 +290,26 @@ public final class SentencesTest {
         due("hue of nothing", NONE, x.hue(7));
     }
 
+    /** "(As FORECAST.)": of make, wish and whiten, today's fog and snow are so, and those of no later day. */
+    private static void asForecast() {
+        String[] skies = {"", "f", "s"};
+        // Today a half of 80 comes off wall 0 but in fog and snow; tomorrow a half of today's, and of 80 but over snow.
+        int[] today = {40, 0, 0};
+        int[] tomorrow = {20 + 40, 40, 0};
+        for (int sky = 0; sky < skies.length; sky++) {
+            ColourEcho x = twoWalls();
+            x.dress(0, 10, 0, 0);
+            Due.live(x, "r8." + skies[sky]);
+            String told = "sky " + skies[sky];
+            due(told + " make today", 100 - today[sky], x.make(0, 0, 100, 0));
+            due(told + " make tomorrow", 2 * (100 - tomorrow[sky]), x.make(0, 1, 100, 0));
+            due(told + " wish today", 100 - today[sky] - 10, x.wish(1, 0, 100000000, 0));
+            due(told + " wish tomorrow", 100 - tomorrow[sky] - 5, x.wish(1, 1, 100000000, 0));
+            due(told + " whiten", tomorrow[sky] == 0 ? 0 : sky == 1 ? 1 : 2, x.whiten(0, 0, 0));
+            due(told + " which", tomorrow[sky] == 0 ? 0 : sky == 1 ? 2 : 3, x.whiten(0, 0, 1));
+        }
+    }
+
     /** "the least that must be shown more today of a COLOUR .. so that .. at least v .. are SEEN of it", "and what is SEEN then". */
     private static void makes() {
         ColourEcho x = twoWalls();
@@ -476,6 +498,40 @@ public final class SentencesTest {
         Due.live(x, "f");
         due("in fog 30 of 50", NONE, x.turns(7, 0));
         due("so the least", 0, x.turns(7, 1));
+    }
+
+    /**
+     * "Each would rather win than that nobody loses, and rather that than lose". What is SEEN only grows by a dress, so
+     * whether somebody loses is the whole set's matter: NONE, if all of it is no more than LIMIT, and else he wins who can.
+     */
+    private static void ratherWin() {
+        ColourEcho x = new ColourEcho();
+        int[] red = {7, 11, 13, 17, 19, 23};
+        for (int dress = 0; dress < 6; dress++) {
+            x.dress(dress, red[dress], 0, 0);
+        }
+        x.limit(42);
+        for (int set = 1; set < 64; set++) {
+            boolean[] wins = new boolean[64];
+            for (int left = 1; left <= set; left++) {
+                for (int dress = 0; dress < 6; dress++) {
+                    int rest = left & ~(1 << dress);
+                    boolean may = (left & ~set) == 0 && rest != left && redOf(red, set & ~rest) <= 42;
+                    wins[left] |= may && !wins[rest];
+                }
+            }
+            boolean over = redOf(red, set) > 42;
+            due("who wins of " + set, !over ? NONE : wins[set] ? 0 : 1, x.turns(set, 0));
+            due("has he a dress, of " + set, !over || wins[set] ? 1 : 0, x.turns(set, 1) == NONE ? 0 : 1);
+        }
+    }
+
+    private static int redOf(int[] red, int set) {
+        int sum = 0;
+        for (int dress = 0; dress < 6; dress++) {
+            sum += (set >> dress & 1) * red[dress];
+        }
+        return sum;
     }
 
     private static void year(ColourEcho x, int seed, int m, int[] want) {
